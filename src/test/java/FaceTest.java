@@ -1,0 +1,83 @@
+import java.lang.reflect.Constructor;
+import java.lang.reflect.Executable;
+import java.lang.reflect.Field;
+import java.lang.reflect.Method;
+import java.lang.reflect.Modifier;
+import java.util.Arrays;
+import java.util.Set;
+import java.util.TreeSet;
+
+/** "The public face" of the document, and rules 1 and 5 of LANGUAGE.md. */
+public final class FaceTest {
+    private static final String IAE = "java.lang.IllegalArgumentException";
+    private static final String NSEE = "java.util.NoSuchElementException";
+
+    public static void main(String[] args) {
+        theClassIsPublicAndFinal();
+        theFaceIsTheDocuments();
+        nothingElseCanBeSeen();
+        noPrivateMethodHasAPublicName();
+        staticFieldsAreFinal();
+        Check.end("The public face");
+    }
+
+    private static void theClassIsPublicAndFinal() {
+        String modifiers = Modifier.toString(TimerWheels.class.getModifiers());
+        Check.same("modifiers of the class", modifiers, "public final");
+        Check.same("package", TimerWheels.class.getPackageName(), "");
+    }
+
+    private static void theFaceIsTheDocuments() {
+        Set<String> due = new TreeSet<>(Arrays.asList(
+                "public TimerWheels()",
+                "public int TimerWheels.set(int,long,int) throws " + IAE,
+                "public long TimerWheels.drop(int) throws " + IAE + "," + NSEE,
+                "public int TimerWheels.take() throws " + NSEE,
+                "public long TimerWheels.least()",
+                "public int TimerWheels.go(long) throws " + IAE,
+                "public int TimerWheels.skip() throws " + NSEE,
+                "public long TimerWheels.timer(int,int) throws " + IAE,
+                "public long TimerWheels.count(int) throws " + IAE));
+        Set<String> seen = new TreeSet<>();
+        for (Constructor<?> c : TimerWheels.class.getDeclaredConstructors()) {
+            addUnlessPrivate(seen, c, c.toGenericString());
+        }
+        for (Method m : TimerWheels.class.getDeclaredMethods()) {
+            addUnlessPrivate(seen, m, m.toGenericString());
+        }
+        Check.same("the face", seen.toString(), due.toString());
+    }
+
+    private static void addUnlessPrivate(Set<String> seen, Executable member, String text) {
+        if (!Modifier.isPrivate(member.getModifiers())) {
+            seen.add(text);
+        }
+    }
+
+    private static void nothingElseCanBeSeen() {
+        for (Field f : TimerWheels.class.getDeclaredFields()) {
+            Check.same(f + " is private", Modifier.isPrivate(f.getModifiers()) ? 1 : 0, 1);
+        }
+        Check.same("superclass", TimerWheels.class.getSuperclass().getName(), "java.lang.Object");
+        Check.same("interfaces", TimerWheels.class.getInterfaces().length, 0);
+    }
+
+    private static void noPrivateMethodHasAPublicName() {
+        Set<String> names = new TreeSet<>();
+        for (Method m : TimerWheels.class.getMethods()) {
+            names.add(m.getName());
+        }
+        for (Method m : TimerWheels.class.getDeclaredMethods()) {
+            boolean hides = Modifier.isPrivate(m.getModifiers()) && names.contains(m.getName());
+            Check.same(m + " bears a public name", hides ? 1 : 0, 0);
+        }
+    }
+
+    private static void staticFieldsAreFinal() {
+        for (Field f : TimerWheels.class.getDeclaredFields()) {
+            if (Modifier.isStatic(f.getModifiers())) {
+                Check.same(f + " is final", Modifier.isFinal(f.getModifiers()) ? 1 : 0, 1);
+            }
+        }
+    }
+}
