@@ -5,6 +5,7 @@ final class Check {
     static final long LAST_TIME = 1L << 46;
     static final long LONGEST_GO = 1L << 44;
 
+    private static int tests = 0;
     private static int wrong = 0;
 
     private Check() {
@@ -13,6 +14,31 @@ final class Check {
     /** A call, or a run of calls, whose answer does not matter. */
     interface Calls {
         void on(TimerWheels x);
+    }
+
+    /**
+     * A test of these words of the document. What it throws unasked is caught here, so that one
+     * broken sentence does not keep the next ones from being tested.
+     */
+    static void sentence(String words, Runnable test) {
+        int wrongBefore = wrong;
+        try {
+            test.run();
+        } catch (RuntimeException e) {
+            tellWrong("thrown unasked: " + e + " at " + e.getStackTrace()[0]);
+        }
+        tests++;
+        if (wrong != wrongBefore) {
+            System.out.println("    so this does not hold: " + words);
+        }
+    }
+
+    static void end(String test) {
+        String verdict = wrong == 0 ? "all as due" : wrong + " answers not as due";
+        System.out.println(test + ": " + tests + " tests, " + verdict);
+        if (wrong != 0 || tests == 0) {
+            System.exit(1);
+        }
     }
 
     static void same(String what, long got, long want) {
@@ -27,19 +53,77 @@ final class Check {
         }
     }
 
-    /** The call, behind the run, throws IllegalArgumentException and changes nothing. */
+    /** In every state the call throws IllegalArgumentException and changes nothing. */
+    static void refused(String what, Calls call) {
+        for (State state : State.values()) {
+            refused(what, state, call);
+        }
+    }
+
+    /** Behind the run the call throws IllegalArgumentException and changes nothing. */
     static void refused(String what, Calls run, Calls call) {
         throwsAndChangesNothing(what, run, call, IllegalArgumentException.class);
     }
 
-    /** The call, behind the run, throws NoSuchElementException and changes nothing. */
+    /** Behind the run the call throws NoSuchElementException and changes nothing. */
     static void findsNone(String what, Calls run, Calls call) {
         throwsAndChangesNothing(what, run, call, NoSuchElementException.class);
     }
 
-    /** The call, behind the run, answers, and all that can be seen is as it was. */
+    /** In every state the call answers and changes nothing. */
+    static void changesNothing(String what, Calls call) {
+        for (State state : State.values()) {
+            changesNothing(what, state, call);
+        }
+    }
+
+    /** Behind the run, all that the other calls show is the same before and after the call. */
     static void changesNothing(String what, Calls run, Calls call) {
-        same(what + " changes nothing", state(run, call), state(run, x -> { }));
+        for (Look look : Look.values()) {
+            if (look.keeps) {
+                sameBeforeAndAfter(what, look, run, call);
+            } else {
+                sameWithAndWithout(what, look, run, call);
+            }
+        }
+    }
+
+    private static void sameBeforeAndAfter(String what, Look look, Calls run, Calls call) {
+        TimerWheels x = made(run);
+        String before = look.at(x);
+        call.on(x);
+        same(look + " behind " + what + " in state " + run, look.at(x), before);
+    }
+
+    private static void sameWithAndWithout(String what, Look look, Calls run, Calls call) {
+        TimerWheels with = made(run);
+        call.on(with);
+        same(look + " behind " + what + " in state " + run, look.at(with), look.at(made(run)));
+    }
+
+    private static void throwsAndChangesNothing(
+            String what, Calls run, Calls call, Class<? extends RuntimeException> due) {
+        same(what + " in state " + run + " throws", thrownBy(made(run), call), due.getName());
+        changesNothing(what, run, x -> thrownBy(x, call));
+    }
+
+    static TimerWheels made(Calls run) {
+        TimerWheels x = new TimerWheels();
+        run.on(x);
+        return x;
+    }
+
+    static String thrownBy(TimerWheels x, Calls call) {
+        try {
+            call.on(x);
+        } catch (RuntimeException e) {
+            return e.getClass().getName();
+        }
+        return "nothing";
+    }
+
+    static void throwsNoSuchElement(String what, TimerWheels x, Calls call) {
+        same(what + " throws", thrownBy(x, call), NoSuchElementException.class.getName());
     }
 
     /** TIMER j is there with this, and DUE or not. */
@@ -67,7 +151,7 @@ final class Check {
         for (int j : timers) {
             same("take()", x.take(), j);
         }
-        same("take() behind the last", thrownBy(x, TimerWheels::take), "NoSuchElementException");
+        throwsNoSuchElement("take() behind the last", x, TimerWheels::take);
     }
 
     /** The CLOCK can only be brought to 2^46 in steps of at most 2^44. */
@@ -77,49 +161,13 @@ final class Check {
         }
     }
 
-    static void end(String test) {
-        System.out.println(test + (wrong == 0 ? ": all as due" : ": " + wrong + " not as due"));
-        if (wrong != 0) {
-            System.exit(1);
+    /** Brings the CLOCK of a new object to any time in one step, however far. */
+    static void skipTo(TimerWheels x, long time) {
+        if (time > 0) {
+            x.set(0, time, 0);
+            x.skip();
+            x.drop(0);
         }
-    }
-
-    private static void throwsAndChangesNothing(
-            String what, Calls run, Calls call, Class<? extends RuntimeException> due) {
-        TimerWheels x = new TimerWheels();
-        run.on(x);
-        same(what + " throws", thrownBy(x, call), due.getSimpleName());
-        changesNothing(what, run, y -> thrownBy(y, call));
-    }
-
-    static String thrownBy(TimerWheels x, Calls call) {
-        try {
-            call.on(x);
-        } catch (RuntimeException e) {
-            return e.getClass().getSimpleName();
-        }
-        return "nothing";
-    }
-
-    /**
-     * All that a new object shows behind the two runs. Two objects are compared, not one looked at
-     * twice, because one look takes over 400 of the 512 calls that an object has.
-     */
-    private static String state(Calls first, Calls second) {
-        TimerWheels x = new TimerWheels();
-        first.on(x);
-        second.on(x);
-        StringBuilder seen = new StringBuilder();
-        for (int what = 0; what <= 2; what++) {
-            seen.append(x.count(what)).append(' ');
-        }
-        seen.append(x.least());
-        for (int j = 0; j <= 99; j++) {
-            for (int what = 0; what <= 3; what++) {
-                seen.append(what == 0 ? '|' : ' ').append(x.timer(j, what));
-            }
-        }
-        return seen.append("| next AGE ").append(x.set(0, 0, 0)).toString();
     }
 
     private static void tellWrong(String text) {

@@ -13,11 +13,11 @@ public final class FaceTest {
     private static final String NSEE = "java.util.NoSuchElementException";
 
     public static void main(String[] args) {
-        theClassIsPublicAndFinal();
-        theFaceIsTheDocuments();
-        nothingElseCanBeSeen();
-        noPrivateMethodHasAPublicName();
-        staticFieldsAreFinal();
+        Check.sentence("public final class TimerWheels", FaceTest::theClassIsPublicAndFinal);
+        Check.sentence("The public face", FaceTest::theFaceIsTheDocuments);
+        Check.sentence("LANGUAGE.md, rule 1", FaceTest::nothingElseCanBeSeen);
+        Check.sentence("LANGUAGE.md, rule 1", FaceTest::noPrivateMethodHasAPublicName);
+        Check.sentence("LANGUAGE.md, rule 5", FaceTest::staticFieldsAreFinal);
         Check.end("The public face");
     }
 

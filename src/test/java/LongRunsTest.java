@@ -11,10 +11,14 @@ public final class LongRunsTest {
     private static final int CALLS = 512;
 
     public static void main(String[] args) {
+        Check.sentence("promises 1 to 9 together", LongRunsTest::compareAllRuns);
+        Check.end("Long runs");
+    }
+
+    private static void compareAllRuns() {
         for (int run = 0; run < RUNS; run++) {
             new Run(run).compare();
         }
-        Check.end("Long runs");
     }
 
     private record Timer(int j, long time, int priority, int age) {
