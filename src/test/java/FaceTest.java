@@ -15,6 +15,7 @@ public final class FaceTest {
     public static void main(String[] args) {
         Check.sentence("public final class TimerWheels", FaceTest::theClassIsPublicAndFinal);
         Check.sentence("The public face", FaceTest::theFaceIsTheDocuments);
+        Check.sentence("The public face", FaceTest::noOtherPublicMember);
         Check.sentence("LANGUAGE.md, rule 1", FaceTest::nothingElseCanBeSeen);
         Check.sentence("LANGUAGE.md, rule 1", FaceTest::noPrivateMethodHasAPublicName);
         Check.sentence("LANGUAGE.md, rule 5", FaceTest::staticFieldsAreFinal);
@@ -60,6 +61,26 @@ public final class FaceTest {
         }
         Check.same("superclass", TimerWheels.class.getSuperclass().getName(), "java.lang.Object");
         Check.same("interfaces", TimerWheels.class.getInterfaces().length, 0);
+        for (Class<?> inside : TimerWheels.class.getDeclaredClasses()) {
+            int modifiers = inside.getModifiers();
+            boolean shown = Modifier.isPublic(modifiers) || Modifier.isProtected(modifiers);
+            Check.same(inside + " is public or protected", shown ? 1 : 0, 0);
+        }
+    }
+
+    /** What a caller can name: the eight methods, and what every object has. */
+    private static void noOtherPublicMember() {
+        Set<String> seen = new TreeSet<>();
+        for (Method m : TimerWheels.class.getMethods()) {
+            if (m.getDeclaringClass() != Object.class) {
+                seen.add(m.getName());
+            }
+        }
+        Check.same("public methods", seen.toString(),
+                "[count, drop, go, least, set, skip, take, timer]");
+        Check.same("public constructors", TimerWheels.class.getConstructors().length, 1);
+        Check.same("public fields", TimerWheels.class.getFields().length, 0);
+        Check.same("public classes inside", TimerWheels.class.getClasses().length, 0);
     }
 
     private static void noPrivateMethodHasAPublicName() {
